@@ -7,10 +7,12 @@ public final class AgainstTest {
         wrongPairs();
         factors();
         factorsFollowTheTellings();
+        daysEndAt239();
         middles();
         middleOfAllDays();
         steps();
         stepsPoolFarBack();
+        stepsOfAllGroups();
         blinds();
         actives();
         chains();
@@ -123,6 +125,21 @@ public final class AgainstTest {
         due.met(x, "booked over", x.both(0, 1), 1);
     }
 
+    /** The next eye's DAY 0 is not this one's DAY 240. */
+    private static void daysEndAt239() {
+        SpotRows x = withEyes(3);
+        x.tell(0, 239, 1, 5);
+        x.tell(1, 239, 1, 5);
+        x.tell(1, 0, 1, 3);
+        x.tell(2, 0, 3, 3);
+        due.met(x, "both", x.both(0, 1), 1);
+        due.tells(x, "middle", x.middle(0, 1), 1, 1);
+        due.tells(x, "step", x.step(0, 1, 20), 1, 1);
+        x.tell(0, 239, 0, 5);
+        due.met(x, "blind", x.blind(0, 1), 1);
+        due.met(x, "days", x.days(0), 1);
+    }
+
     private static void middles() {
         SpotRows x = withEyes(3);
         due.lacks(x, "no days", x.middle(0, 1), 6);
@@ -130,6 +147,9 @@ public final class AgainstTest {
         x.tell(1, 0, 0, 9);
         due.lacks(x, "no number above 0", x.middle(0, 1), 6);
         due.tells(x, "0 by 9", x.middle(1, 0), 0, 1);
+        x.tell(2, 0, 0, 1);
+        due.tells(x, "9 by 1", x.middle(2, 1), 9, 1);
+        x.unsay(2, 0);
         link(x, 1, 0, 1, of(1, 6, 4));
         due.tells(x, "one", x.middle(0, 1), 2, 3);
         due.tells(x, "lower of two, 0", x.middle(1, 0), 0, 1);
@@ -209,6 +229,27 @@ public final class AgainstTest {
         due.tells(x, "step 9", x.step(0, 1, 9), 7, 1);
         due.tells(x, "step 5", x.step(0, 1, 5), 7, 1);
         due.tells(x, "step 4", x.step(0, 1, 4), 4, 1);
+    }
+
+    private static void stepsOfAllGroups() {
+        SpotRows x = withEyes(2);
+        for (int groups = 0; groups <= 20; groups++) {
+            groups(x, groups, groups, groups);
+        }
+        for (int groups = 0; groups <= 20; groups++) {
+            due.tells(x, "rising " + groups, x.step(0, 1, groups), groups, 1);
+        }
+        for (int groups = 0; groups <= 20; groups++) {
+            groups(x, groups, groups, 20 - groups);
+        }
+        for (int groups = 0; groups <= 20; groups++) {
+            due.tells(x, "falling " + groups, x.step(0, 1, groups), 10, 1);
+        }
+        SpotRows y = withEyes(2);
+        groups(y, 0, 1, 2);
+        groups(y, 1, 2, 1);
+        due.tells(y, "two that fall", y.step(0, 1, 1), 3, 2);
+        due.tells(y, "two that fall", y.step(0, 1, 2), 3, 2);
     }
 
     private static void blinds() {

@@ -97,6 +97,8 @@ public final class EyesTest {
         due.met(x, "a book of 60 up to day 239", x.book(0, 180, 0, 60));
         due.met(x, "days", x.days(0), 7 + 59);
         due.met(x, "a book of one on day 239", x.book(0, 239, 0, 1));
+        x.tray(3, 3, 1);
+        due.met(x, "a book of the last tray", x.book(0, 50, 3, 1));
         x.tray(1, 0, 3);
         x.write(1, 0, 127);
         x.write(1, 1, -1);
@@ -117,6 +119,7 @@ public final class EyesTest {
         due.lacks(x, "tray -1", x.book(0, 0, -1, 1), 1);
         due.lacks(x, "tray 4", x.book(0, 0, 4, 1), 1);
         due.lacks(x, "many 0", x.book(0, 0, 1, 0), 1);
+        due.lacks(x, "many 0 from another day", x.book(0, 5, 0, 0), 1);
         due.lacks(x, "many -1", x.book(0, 0, 1, -1), 1);
         due.lacks(x, "many 61", x.book(0, 0, 1, 61), 1);
         due.lacks(x, "the most", x.book(0, 239, 1, Integer.MAX_VALUE), 1);
@@ -139,7 +142,11 @@ public final class EyesTest {
             x.write(0, 1, number);
             due.lacks(x, "book of " + number, x.book(0, 0, 0, 2), 1);
         }
+        x.write(0, 1, 0);
+        x.write(0, 0, -2);
+        due.lacks(x, "the first number is wrong", x.book(0, 0, 0, 2), 1);
         due.met(x, "days", x.days(0), 0);
+        x.write(0, 0, 0);
         for (int groups = 0; groups <= 20; groups++) {
             x.write(0, 1, 1000 * groups + groups);
             due.met(x, "book of " + groups, x.book(0, 0, 0, 2));

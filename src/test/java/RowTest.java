@@ -12,6 +12,7 @@ public final class RowTest {
         turnsReach();
         turnsOverGaps();
         smoothTurns();
+        turnsByOneThousandth();
         changes();
         changesOfChains();
         due.end("RowTest");
@@ -192,6 +193,11 @@ public final class RowTest {
         SpotRows x = ofMonths(9, 1, 1, 1, 1, 1, 1, 1, 8, 9, 1, 1, 1, 1, 1, 1, 1, 1, 1, 1, 1, 1, 1, 2);
         holdsTurns(x, 1, 7, true, 0, 9, 23);
         holdsTurns(x, 1, 8, true, 0, 9, 23);
+        x.unsay(0, 222);
+        x.tell(0, 220, 0, 3);
+        holdsTurns(x, 1, 1, true, 0, 9, 22);
+        x.tell(0, 233, 0, 7);
+        holdsTurns(x, 1, 1, true, 0, 9, 23);
         SpotRows y = ofMonths(9, 1, 1, 1, 1, 1, 1, 1, 8);
         holdsTurns(y, 1, 7, true, 0, 8);
         holdsTurns(y, 1, 8, true, 0);
@@ -215,6 +221,28 @@ public final class RowTest {
         holdsTurns(x, 1, 1, true, 1, 4, 6);
         holdsTurns(x, 3, 1, true, 0, 3, 5);
         holdsTurns(x, 3, 1, false, 1, 6, 8);
+    }
+
+    /** EYE 1 weighs 999: MONTHS are 999 and 1000. */
+    private static void turnsByOneThousandth() {
+        SpotRows x = withEyes(2);
+        for (int day = 0; day < 5; day++) {
+            x.tell(0, day, 0, day == 0 ? 199 : 200);
+            x.tell(1, day, 0, 200);
+        }
+        due.met(x, "weight", x.weight(1), 999);
+        x.tell(1, 100, 0, 1);
+        x.tell(0, 110, 0, 1);
+        x.tell(1, 120, 0, 1);
+        due.met(x, "month", x.month(10), 999);
+        due.met(x, "month", x.month(11), 1000);
+        holdsTurns(x, 1, 1, true, 0, 11);
+        holdsTurns(x, 1, 1, false, 0, 10, 12);
+        x.unsay(0, 110);
+        x.unsay(1, 120);
+        x.tell(0, 90, 0, 1);
+        holdsTurns(x, 1, 1, true, 0, 9);
+        holdsTurns(x, 1, 1, false, 0, 10);
     }
 
     private static void changes() {

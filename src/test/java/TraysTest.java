@@ -4,6 +4,7 @@ public final class TraysTest {
 
     public static void main(String[] args) {
         trays();
+        traysAreApart();
         writesAreCut();
         places();
         pours();
@@ -30,6 +31,27 @@ public final class TraysTest {
         due.met(x, "a tray anew is of 0s", x.read(3, 59), 0);
         due.met(x, "a shorter tray", x.tray(3, 2, 2));
         due.lacks(x, "a shorter tray's old place", x.read(3, 2), 3);
+    }
+
+    private static void traysAreApart() {
+        SpotRows x = new SpotRows();
+        for (int tray = 0; tray < 4; tray++) {
+            x.tray(tray, 3, 60);
+            x.write(tray, 0, 10 + tray);
+            x.write(tray, 59, 20 + tray);
+        }
+        for (int anew = 0; anew < 4; anew++) {
+            due.met(x, "a tray anew", x.tray(anew, 3, 60));
+            for (int tray = 0; tray < 4; tray++) {
+                due.met(x, "first of " + tray, x.read(tray, 0), tray <= anew ? 0 : 10 + tray);
+                due.met(x, "last of " + tray, x.read(tray, 59), tray <= anew ? 0 : 20 + tray);
+            }
+        }
+        x.write(3, 59, 7);
+        due.met(x, "pour from 3", x.pour(3, 58, 0, 1, 2));
+        holds(x, 0, 0, 0, 7, 0);
+        due.met(x, "pour to 3", x.pour(0, 2, 3, 0, 1));
+        holds(x, 3, 7, 0);
     }
 
     private static void writesAreCut() {
