@@ -396,7 +396,7 @@ public final class SpotRows {
         if (!trays.holds(tray, 0, many)) {
             return NO_PLACE;
         }
-        // All numbers are asked ahead of the first one that is taken: a refused book changes nothing.
+        // All are asked ahead of the first one that is taken: a refused book changes nothing.
         for (int place = 0; place < many; place++) {
             if (!Tellings.isCode(trays.numberAt(tray, place))) {
                 return CANNOT_BE;
@@ -938,7 +938,7 @@ public final class SpotRows {
             return true;
         }
 
-        // Of months as great as one another the first is the turn, so ahead of it a like one outdoes it.
+        // Of like MONTHS the first one is the turn: a like one ahead of it outdoes a MONTH.
         private boolean outdoes(int near, int month, boolean high) {
             int more = high ? smooths[near] - smooths[month] : smooths[month] - smooths[near];
             return near < month ? more >= 0 : more > 0;

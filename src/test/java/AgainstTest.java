@@ -24,15 +24,6 @@ public final class AgainstTest {
         due.end("AgainstTest");
     }
 
-    private static SpotRows withEyes(int many) {
-        SpotRows x = new SpotRows();
-        for (int eye = 0; eye < many; eye++) {
-            x.eye();
-        }
-        x.rules(1, 1);
-        return x;
-    }
-
     /** From a day on, two eyes tell of the same days; numbers up to 200. */
     private static int link(SpotRows x, int from, int a, int b, int[] many) {
         for (int k = 0; k < many[0]; k++) {
@@ -47,7 +38,7 @@ public final class AgainstTest {
     }
 
     private static void boths() {
-        SpotRows x = withEyes(3);
+        SpotRows x = Due.withEasyEyes(3);
         due.met(x, "none", x.both(0, 1), 0);
         x.tell(0, 0, 0, 0);
         x.tell(1, 0, 0, 0);
@@ -65,7 +56,7 @@ public final class AgainstTest {
     }
 
     private static void wrongPairs() {
-        SpotRows x = withEyes(2);
+        SpotRows x = Due.withEasyEyes(2);
         x.tell(0, 0, 1, 1);
         x.tell(1, 0, 1, 1);
         int[][] pairs = {{0, 0}, {1, 1}, {-1, 0}, {0, -1}, {2, 0}, {0, 2}, {7, 7}};
@@ -82,7 +73,7 @@ public final class AgainstTest {
     }
 
     private static void factors() {
-        SpotRows x = withEyes(8);
+        SpotRows x = Due.withEasyEyes(8);
         int day = link(x, 0, 0, 1, of(1, 100, 1));
         day = link(x, day, 0, 2, of(1, 101, 1));
         day = link(x, day, 0, 3, of(1, 3, 2));
@@ -106,7 +97,7 @@ public final class AgainstTest {
 
     /** Sums of pairs follow what is told anew, unsaid, or booked over. */
     private static void factorsFollowTheTellings() {
-        SpotRows x = withEyes(3);
+        SpotRows x = Due.withEasyEyes(3);
         x.tell(0, 0, 1, 10);
         x.tell(1, 0, 1, 10);
         x.tell(0, 1, 2, 10);
@@ -127,21 +118,23 @@ public final class AgainstTest {
 
     /** The next eye's DAY 0 is not this one's DAY 240. */
     private static void daysEndAt239() {
-        SpotRows x = withEyes(3);
+        SpotRows x = Due.withEasyEyes(3);
         x.tell(0, 239, 1, 5);
         x.tell(1, 239, 1, 5);
         x.tell(1, 0, 1, 3);
-        x.tell(2, 0, 3, 3);
+        x.tell(2, 0, 0, 3);
         due.met(x, "both", x.both(0, 1), 1);
         due.tells(x, "middle", x.middle(0, 1), 1, 1);
         due.tells(x, "step", x.step(0, 1, 20), 1, 1);
         x.tell(0, 239, 0, 5);
+        x.tell(1, 0, 0, 3);
+        x.tell(2, 0, 3, 3);
         due.met(x, "blind", x.blind(0, 1), 1);
         due.met(x, "days", x.days(0), 1);
     }
 
     private static void middles() {
-        SpotRows x = withEyes(3);
+        SpotRows x = Due.withEasyEyes(3);
         due.lacks(x, "no days", x.middle(0, 1), 6);
         x.tell(0, 0, 0, 0);
         x.tell(1, 0, 0, 9);
@@ -169,7 +162,7 @@ public final class AgainstTest {
     }
 
     private static void middleOfAllDays() {
-        SpotRows x = withEyes(2);
+        SpotRows x = Due.withEasyEyes(2);
         for (int day = 0; day < 240; day++) {
             x.tell(0, day, 0, 200);
             x.tell(1, day, 0, (day * 7) % 199 + 1);
@@ -185,7 +178,7 @@ public final class AgainstTest {
     }
 
     private static void steps() {
-        SpotRows x = withEyes(3);
+        SpotRows x = Due.withEasyEyes(3);
         due.lacks(x, "no days", x.step(0, 1, 20), 6);
         groups(x, 0, 3, 5);
         groups(x, 1, 7, 9);
@@ -213,7 +206,7 @@ public final class AgainstTest {
     }
 
     private static void stepsPoolFarBack() {
-        SpotRows x = withEyes(2);
+        SpotRows x = Due.withEasyEyes(2);
         int[][] days = {{1, 4}, {2, 6}, {3, 5}, {4, 1}, {5, 9}, {6, 8}, {6, 8}, {8, 10}};
         for (int day = 0; day < days.length; day++) {
             groups(x, day, days[day][0], days[day][1]);
@@ -232,7 +225,7 @@ public final class AgainstTest {
     }
 
     private static void stepsOfAllGroups() {
-        SpotRows x = withEyes(2);
+        SpotRows x = Due.withEasyEyes(2);
         for (int groups = 0; groups <= 20; groups++) {
             groups(x, groups, groups, groups);
         }
@@ -245,7 +238,7 @@ public final class AgainstTest {
         for (int groups = 0; groups <= 20; groups++) {
             due.tells(x, "falling " + groups, x.step(0, 1, groups), 10, 1);
         }
-        SpotRows y = withEyes(2);
+        SpotRows y = Due.withEasyEyes(2);
         groups(y, 0, 1, 2);
         groups(y, 1, 2, 1);
         due.tells(y, "two that fall", y.step(0, 1, 1), 3, 2);
@@ -253,7 +246,7 @@ public final class AgainstTest {
     }
 
     private static void blinds() {
-        SpotRows x = withEyes(3);
+        SpotRows x = Due.withEasyEyes(3);
         due.lacks(x, "no days", x.blind(0, 1), 6);
         groups(x, 0, 0, 20);
         due.met(x, "blind for all", x.blind(0, 1), 20);
@@ -275,7 +268,7 @@ public final class AgainstTest {
     }
 
     private static void actives() {
-        SpotRows x = withEyes(2);
+        SpotRows x = Due.withEasyEyes(2);
         x.tell(0, 0, 1, 1);
         x.tell(0, 1, 0, 9);
         x.tell(0, 2, 0, 0);
@@ -304,7 +297,7 @@ public final class AgainstTest {
     }
 
     private static void chains() {
-        SpotRows x = withEyes(5);
+        SpotRows x = Due.withEasyEyes(5);
         int day = link(x, 0, 1, 0, of(2, 1, 1));
         day = link(x, day, 2, 1, of(9, 1, 1));
         day = link(x, day, 3, 2, of(9, 1, 1));
@@ -330,7 +323,7 @@ public final class AgainstTest {
     }
 
     private static void widestChain() {
-        SpotRows x = withEyes(6);
+        SpotRows x = Due.withEasyEyes(6);
         int day = link(x, 0, 1, 0, of(3, 1, 1));
         day = link(x, day, 2, 0, of(5, 1, 1));
         day = link(x, day, 3, 0, of(5, 1, 1));
@@ -346,7 +339,7 @@ public final class AgainstTest {
     }
 
     private static void chainOfAnotherThanTheNext() {
-        SpotRows x = withEyes(6);
+        SpotRows x = Due.withEasyEyes(6);
         int day = link(x, 0, 1, 0, of(3, 1, 2));
         day = link(x, day, 2, 0, of(5, 1, 5));
         day = link(x, day, 4, 1, of(3, 1, 1));
@@ -360,7 +353,7 @@ public final class AgainstTest {
     }
 
     private static void longestChain() {
-        SpotRows x = withEyes(8);
+        SpotRows x = Due.withEasyEyes(8);
         int day = link(x, 0, 0, 7, of(1, 2, 1));
         for (int eye = 7; eye > 1; eye--) {
             day = link(x, day, eye, eye - 1, of(1, 1, 1));
@@ -370,7 +363,7 @@ public final class AgainstTest {
     }
 
     private static void weights() {
-        SpotRows x = withEyes(8);
+        SpotRows x = Due.withEasyEyes(8);
         int day = link(x, 0, 1, 0, of(1, 2, 200));
         day = link(x, day, 2, 1, of(1, 2, 200));
         day = link(x, day, 3, 2, of(1, 200, 2));
@@ -390,7 +383,7 @@ public final class AgainstTest {
     }
 
     private static void loops() {
-        SpotRows x = withEyes(5);
+        SpotRows x = Due.withEasyEyes(5);
         int day = link(x, 0, 0, 1, of(1, 2, 200));
         day = link(x, day, 1, 2, of(1, 2, 200));
         day = link(x, day, 2, 0, of(1, 2, 200));

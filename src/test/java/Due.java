@@ -3,6 +3,21 @@ final class Due {
     private int wrong;
     private int asked;
 
+    static SpotRows withEyes(int many) {
+        SpotRows x = new SpotRows();
+        for (int eye = 0; eye < many; eye++) {
+            x.eye();
+        }
+        return x;
+    }
+
+    /** One DAY is LEAST and ENOUGH. */
+    static SpotRows withEasyEyes(int many) {
+        SpotRows x = withEyes(many);
+        x.rules(1, 1);
+        return x;
+    }
+
     void is(String call, long got, long want) {
         asked++;
         if (got != want) {

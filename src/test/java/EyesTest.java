@@ -15,14 +15,6 @@ public final class EyesTest {
         due.end("EyesTest");
     }
 
-    private static SpotRows withEyes(int many) {
-        SpotRows x = new SpotRows();
-        for (int eye = 0; eye < many; eye++) {
-            x.eye();
-        }
-        return x;
-    }
-
     private static void eyes() {
         SpotRows x = new SpotRows();
         for (int eye = 0; eye < 8; eye++) {
@@ -35,7 +27,7 @@ public final class EyesTest {
     }
 
     private static void tells() {
-        SpotRows x = withEyes(2);
+        SpotRows x = Due.withEyes(2);
         due.met(x, "nought", x.tell(0, 0, 0, 0));
         due.met(x, "the most", x.tell(1, 239, 20, 200));
         due.met(x, "as many spots as groups", x.tell(0, 1, 20, 20));
@@ -60,7 +52,7 @@ public final class EyesTest {
     }
 
     private static void unsays() {
-        SpotRows x = withEyes(2);
+        SpotRows x = Due.withEyes(2);
         x.tell(0, 239, 0, 0);
         due.lacks(x, "what is not told", x.unsay(0, 0), 5);
         due.lacks(x, "what another one told", x.unsay(1, 239), 5);
@@ -75,7 +67,7 @@ public final class EyesTest {
     }
 
     private static void books() {
-        SpotRows x = withEyes(1);
+        SpotRows x = Due.withEyes(1);
         x.tray(0, 3, 60);
         long[] numbers = {0, -1, 1001, 20200, 200, 20020};
         for (int place = 0; place < numbers.length; place++) {
@@ -109,7 +101,7 @@ public final class EyesTest {
     }
 
     private static void bookAsksInOrder() {
-        SpotRows x = withEyes(1);
+        SpotRows x = Due.withEyes(1);
         x.tray(0, 3, 3);
         x.write(0, 2, -2);
         due.lacks(x, "eye -1", x.book(-1, 0, 0, 1), 1);
@@ -134,7 +126,7 @@ public final class EyesTest {
     }
 
     private static void bookNumbers() {
-        SpotRows x = withEyes(1);
+        SpotRows x = Due.withEyes(1);
         x.tray(0, 3, 2);
         long[] wrong = {-2, -1000, 201, 999, 1000, 2001, 20019, 20201, 21021, 21200, 4294967295L,
             4294967296L + 1001, -4294967296L + 1001, Long.MAX_VALUE, Long.MIN_VALUE};
@@ -159,7 +151,7 @@ public final class EyesTest {
     }
 
     private static void tolds() {
-        SpotRows x = withEyes(2);
+        SpotRows x = Due.withEyes(2);
         x.tell(0, 3, 4, 50);
         due.met(x, "groups", x.told(0, 3, 0), 4);
         due.met(x, "spots", x.told(0, 3, 1), 50);
@@ -175,7 +167,7 @@ public final class EyesTest {
     }
 
     private static void countsDays() {
-        SpotRows x = withEyes(2);
+        SpotRows x = Due.withEyes(2);
         for (int day = 0; day < 240; day++) {
             x.tell(1, day, 0, 0);
         }
@@ -190,7 +182,7 @@ public final class EyesTest {
     }
 
     private static void rules() {
-        SpotRows x = withEyes(2);
+        SpotRows x = Due.withEyes(2);
         for (int day = 0; day < 100; day++) {
             x.tell(0, day, 1, 1);
             x.tell(1, day, 1, 1);

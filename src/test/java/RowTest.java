@@ -18,17 +18,8 @@ public final class RowTest {
         due.end("RowTest");
     }
 
-    private static SpotRows withEyes(int many) {
-        SpotRows x = new SpotRows();
-        for (int eye = 0; eye < many; eye++) {
-            x.eye();
-        }
-        x.rules(1, 1);
-        return x;
-    }
-
     private static void days() {
-        SpotRows x = withEyes(3);
+        SpotRows x = Due.withEasyEyes(3);
         x.tell(0, 0, 0, 10);
         x.tell(1, 0, 0, 30);
         x.tell(2, 1, 2, 2);
@@ -48,7 +39,7 @@ public final class RowTest {
     }
 
     private static void months() {
-        SpotRows x = withEyes(1);
+        SpotRows x = Due.withEasyEyes(1);
         x.rules(1, 3);
         x.tell(0, 10, 0, 1);
         x.tell(0, 19, 0, 1);
@@ -77,7 +68,7 @@ public final class RowTest {
 
     /** Sums of the greatest VALUES are above what an int holds. */
     private static void greatestValues() {
-        SpotRows x = withEyes(8);
+        SpotRows x = Due.withEasyEyes(8);
         x.tell(0, 0, 0, 200);
         for (int eye = 1; eye < 8; eye++) {
             x.tell(eye, 0, 0, 2);
@@ -117,7 +108,7 @@ public final class RowTest {
 
     /** Each MONTH has one DAY of a NUMBER; below 0: nothing. */
     private static SpotRows ofMonths(int... numbers) {
-        SpotRows x = withEyes(1);
+        SpotRows x = Due.withEasyEyes(1);
         for (int month = 0; month < numbers.length; month++) {
             if (numbers[month] >= 0) {
                 x.tell(0, 10 * month + month % 10, 0, numbers[month]);
@@ -225,7 +216,7 @@ public final class RowTest {
 
     /** EYE 1 weighs 999: MONTHS are 999 and 1000. */
     private static void turnsByOneThousandth() {
-        SpotRows x = withEyes(2);
+        SpotRows x = Due.withEasyEyes(2);
         for (int day = 0; day < 5; day++) {
             x.tell(0, day, 0, day == 0 ? 199 : 200);
             x.tell(1, day, 0, 200);
@@ -246,7 +237,7 @@ public final class RowTest {
     }
 
     private static void changes() {
-        SpotRows x = withEyes(3);
+        SpotRows x = Due.withEasyEyes(3);
         x.tell(0, 0, 0, 1);
         x.tell(1, 0, 0, 3);
         due.met(x, "month", x.month(0), 999);
@@ -270,7 +261,7 @@ public final class RowTest {
 
     /** Without an EYE another CHAIN may be the one, or none. */
     private static void changesOfChains() {
-        SpotRows x = withEyes(5);
+        SpotRows x = Due.withEasyEyes(5);
         x.tell(1, 0, 0, 1);
         x.tell(0, 0, 0, 2);
         x.tell(3, 1, 0, 1);
