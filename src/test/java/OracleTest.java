@@ -13,6 +13,7 @@ public final class OracleTest {
     private final int eyes;
     private final int days;
     private final boolean faint;
+    private final boolean sparse;
 
     private OracleTest(int seed) {
         this.seed = seed;
@@ -20,6 +21,7 @@ public final class OracleTest {
         eyes = 1 + random.nextInt(8);
         days = 10 + random.nextInt(231);
         faint = random.nextBoolean();
+        sparse = random.nextBoolean();
     }
 
     public static void main(String[] args) {
@@ -87,6 +89,16 @@ public final class OracleTest {
         return near(days - 1);
     }
 
+    /** In a sparse run an eye shares DAYS with few others, so that CHAINS are long. */
+    private int aDayOf(int eye) {
+        if (!sparse || eye < 0 || eye >= eyes) {
+            return aDay();
+        }
+        int part = Math.max(1, days / 12);
+        int turned = (eye * 3) % 8;
+        return (turned * part + random.nextInt(2 * part)) % days;
+    }
+
     private int aMonth() {
         return near(Math.min(23, (days - 1) / 10 + 1));
     }
@@ -97,7 +109,7 @@ public final class OracleTest {
 
     private void tell() {
         int eye = anEye();
-        int day = aDay();
+        int day = aDayOf(eye);
         int groups = groups();
         int spots = faint && eye % 2 == 1 ? groups : groups + near(180);
         check("tell", x.tell(eye, day, groups, spots), oracle.tell(eye, day, groups, spots));
@@ -106,7 +118,7 @@ public final class OracleTest {
     private void book() {
         int tray = near(3);
         int sort = random.nextInt(4) == 0 ? near(3) : 1 + random.nextInt(3);
-        int many = random.nextInt(61);
+        int many = random.nextInt(sparse ? 12 : 61);
         check("tray", x.tray(tray, sort, many), oracle.tray(tray, sort, many));
         for (int k = 0; k < 8; k++) {
             write(tray, near(Math.max(0, Math.min(many, 59))));
@@ -115,7 +127,7 @@ public final class OracleTest {
         check("tray", x.tray(other, sort, many), oracle.tray(other, sort, many));
         pour(tray, other);
         int eye = anEye();
-        int day = aDay();
+        int day = sparse ? random.nextInt(6) * 40 : aDay();
         int whole = random.nextInt(8) == 0 ? near(61) : many;
         check("book", x.book(eye, day, tray, whole), oracle.book(eye, day, tray, whole));
     }
