@@ -38,6 +38,7 @@ public final class AgainstTest {
     }
 
     private static void boths() {
+        due.says("How many DAYS BOTH are (1: like ones, too).");
         SpotRows x = Due.withEasyEyes(3);
         due.met(x, "none", x.both(0, 1), 0);
         x.tell(0, 0, 0, 0);
@@ -56,6 +57,7 @@ public final class AgainstTest {
     }
 
     private static void wrongPairs() {
+        due.says("1: like ones, too");
         SpotRows x = Due.withEasyEyes(2);
         x.tell(0, 0, 1, 1);
         x.tell(1, 0, 1, 1);
@@ -73,6 +75,7 @@ public final class AgainstTest {
     }
 
     private static void factors() {
+        due.says("FACTOR of a to b (1: like ones, too; 6).");
         SpotRows x = Due.withEasyEyes(8);
         int day = link(x, 0, 0, 1, of(1, 100, 1));
         day = link(x, day, 0, 2, of(1, 101, 1));
@@ -97,6 +100,7 @@ public final class AgainstTest {
 
     /** Sums of pairs follow what is told anew, unsaid, or booked over. */
     private static void factorsFollowTheTellings() {
+        due.says("FACTOR of a to b (1: like ones, too; 6).");
         SpotRows x = Due.withEasyEyes(3);
         x.tell(0, 0, 1, 10);
         x.tell(1, 0, 1, 10);
@@ -118,6 +122,7 @@ public final class AgainstTest {
 
     /** The next eye's DAY 0 is not this one's DAY 240. */
     private static void daysEndAt239() {
+        due.says("DAYS 0 to 239");
         SpotRows x = Due.withEasyEyes(3);
         x.tell(0, 239, 1, 5);
         x.tell(1, 239, 1, 5);
@@ -134,6 +139,7 @@ public final class AgainstTest {
     }
 
     private static void middles() {
+        due.says("The FRACTION is MIDDLE of a to b: whether it is above 0, 1 or 0");
         SpotRows x = Due.withEasyEyes(3);
         due.lacks(x, "no days", x.middle(0, 1), 6);
         x.tell(0, 0, 0, 0);
@@ -162,6 +168,7 @@ public final class AgainstTest {
     }
 
     private static void middleOfAllDays() {
+        due.says("The FRACTION is MIDDLE of a to b: whether it is above 0, 1 or 0");
         SpotRows x = Due.withEasyEyes(2);
         for (int day = 0; day < 240; day++) {
             x.tell(0, day, 0, 200);
@@ -178,6 +185,7 @@ public final class AgainstTest {
     }
 
     private static void steps() {
+        due.says("The FRACTION is the STEP of a number of GROUPS (0 to 20) of a to b, as middle()");
         SpotRows x = Due.withEasyEyes(3);
         due.lacks(x, "no days", x.step(0, 1, 20), 6);
         groups(x, 0, 3, 5);
@@ -206,6 +214,8 @@ public final class AgainstTest {
     }
 
     private static void stepsPoolFarBack() {
+        due.says("with which the squares of what the other one's GROUPS on these DAYS "
+            + "are away from it together are least");
         SpotRows x = Due.withEasyEyes(2);
         int[][] days = {{1, 4}, {2, 6}, {3, 5}, {4, 1}, {5, 9}, {6, 8}, {6, 8}, {8, 10}};
         for (int day = 0; day < days.length; day++) {
@@ -225,6 +235,7 @@ public final class AgainstTest {
     }
 
     private static void stepsOfAllGroups() {
+        due.says("The FRACTION is the STEP of a number of GROUPS (0 to 20) of a to b, as middle()");
         SpotRows x = Due.withEasyEyes(2);
         for (int groups = 0; groups <= 20; groups++) {
             groups(x, groups, groups, groups);
@@ -246,6 +257,7 @@ public final class AgainstTest {
     }
 
     private static void blinds() {
+        due.says("BLIND of a against b (1: like ones, too; 6: BOTH are none).");
         SpotRows x = Due.withEasyEyes(3);
         due.lacks(x, "no days", x.blind(0, 1), 6);
         groups(x, 0, 0, 20);
@@ -268,6 +280,7 @@ public final class AgainstTest {
     }
 
     private static void actives() {
+        due.says("The FRACTION is ACTIVE, as middle() (1: from above to, too; 5).");
         SpotRows x = Due.withEasyEyes(2);
         x.tell(0, 0, 1, 1);
         x.tell(0, 1, 0, 9);
@@ -297,6 +310,7 @@ public final class AgainstTest {
     }
 
     private static void chains() {
+        due.says("The k-th EYE of a CHAIN");
         SpotRows x = Due.withEasyEyes(5);
         int day = link(x, 0, 1, 0, of(2, 1, 1));
         day = link(x, day, 2, 1, of(9, 1, 1));
@@ -323,6 +337,7 @@ public final class AgainstTest {
     }
 
     private static void widestChain() {
+        due.says("of several that of which the least BOTH on the way is greatest");
         SpotRows x = Due.withEasyEyes(6);
         int day = link(x, 0, 1, 0, of(3, 1, 1));
         day = link(x, day, 2, 0, of(5, 1, 1));
@@ -339,6 +354,7 @@ public final class AgainstTest {
     }
 
     private static void chainOfAnotherThanTheNext() {
+        due.says("of several that of which the least BOTH on the way is greatest");
         SpotRows x = Due.withEasyEyes(6);
         int day = link(x, 0, 1, 0, of(3, 1, 2));
         day = link(x, day, 2, 0, of(5, 1, 5));
@@ -353,6 +369,7 @@ public final class AgainstTest {
     }
 
     private static void longestChain() {
+        due.says("from it to EYE 0, none twice");
         SpotRows x = Due.withEasyEyes(8);
         int day = link(x, 0, 0, 7, of(1, 2, 1));
         for (int eye = 7; eye > 1; eye--) {
@@ -363,6 +380,7 @@ public final class AgainstTest {
     }
 
     private static void weights() {
+        due.says("WEIGHT (1; 6: LOST).");
         SpotRows x = Due.withEasyEyes(8);
         int day = link(x, 0, 1, 0, of(1, 2, 200));
         day = link(x, day, 2, 1, of(1, 2, 200));
@@ -383,6 +401,7 @@ public final class AgainstTest {
     }
 
     private static void loops() {
+        due.says("LOOP (1: like ones, too; 6: a FACTOR lacks).");
         SpotRows x = Due.withEasyEyes(5);
         int day = link(x, 0, 0, 1, of(1, 2, 200));
         day = link(x, day, 1, 2, of(1, 2, 200));

@@ -2,6 +2,7 @@
 final class Due {
     private int wrong;
     private int asked;
+    private String sentence = "";
 
     static SpotRows withEyes(int many) {
         SpotRows x = new SpotRows();
@@ -18,11 +19,16 @@ final class Due {
         return x;
     }
 
+    /** The sentence of the document by which the next answers are due. */
+    void says(String newSentence) {
+        sentence = "\"" + newSentence + "\": ";
+    }
+
     void is(String call, long got, long want) {
         asked++;
         if (got != want) {
             wrong++;
-            System.out.println(call + " answered " + got + ", due is " + want);
+            System.out.println(sentence + call + " answered " + got + ", due is " + want);
         }
     }
 

@@ -16,6 +16,7 @@ public final class EyesTest {
     }
 
     private static void eyes() {
+        due.says("An EYE more: its number (4).");
         SpotRows x = new SpotRows();
         for (int eye = 0; eye < 8; eye++) {
             due.lacks(x, "days of no eye", x.days(eye), 1);
@@ -27,6 +28,7 @@ public final class EyesTest {
     }
 
     private static void tells() {
+        due.says("What an EYE TELLS of a DAY (1: also fewer SPOTS than GROUPS).");
         SpotRows x = Due.withEyes(2);
         due.met(x, "nought", x.tell(0, 0, 0, 0));
         due.met(x, "the most", x.tell(1, 239, 20, 200));
@@ -52,6 +54,7 @@ public final class EyesTest {
     }
 
     private static void unsays() {
+        due.says("It TELLS nothing of a DAY (1; 5: it does so already).");
         SpotRows x = Due.withEyes(2);
         x.tell(0, 239, 0, 0);
         due.lacks(x, "what is not told", x.unsay(0, 0), 5);
@@ -67,6 +70,7 @@ public final class EyesTest {
     }
 
     private static void books() {
+        due.says("From a DAY on it TELLS by the first numbers of a TRAY");
         SpotRows x = Due.withEyes(1);
         x.tray(0, 3, 60);
         long[] numbers = {0, -1, 1001, 20200, 200, 20020};
@@ -101,6 +105,7 @@ public final class EyesTest {
     }
 
     private static void bookAsksInOrder() {
+        due.says("1: also a DAY behind 239; 2; 3; 1: the numbers; asked in this order");
         SpotRows x = Due.withEyes(1);
         x.tray(0, 3, 3);
         x.write(0, 2, -2);
@@ -126,6 +131,7 @@ public final class EyesTest {
     }
 
     private static void bookNumbers() {
+        due.says("1,000 times GROUPS and SPOTS, or -1: nothing");
         SpotRows x = Due.withEyes(1);
         x.tray(0, 3, 2);
         long[] wrong = {-2, -1000, 201, 999, 1000, 2001, 20019, 20201, 21021, 21200, 4294967295L,
@@ -151,6 +157,7 @@ public final class EyesTest {
     }
 
     private static void tolds() {
+        due.says("What 0: GROUPS, 1: SPOTS, 2: NUMBER (1, 5).");
         SpotRows x = Due.withEyes(2);
         x.tell(0, 3, 4, 50);
         due.met(x, "groups", x.told(0, 3, 0), 4);
@@ -167,6 +174,7 @@ public final class EyesTest {
     }
 
     private static void countsDays() {
+        due.says("How many DAYS an EYE TELLS of (1).");
         SpotRows x = Due.withEyes(2);
         for (int day = 0; day < 240; day++) {
             x.tell(1, day, 0, 0);
@@ -182,6 +190,7 @@ public final class EyesTest {
     }
 
     private static void rules() {
+        due.says("LEAST (1 to 100) and ENOUGH (1).");
         SpotRows x = Due.withEyes(2);
         for (int day = 0; day < 100; day++) {
             x.tell(0, day, 1, 1);

@@ -19,6 +19,7 @@ public final class RowTest {
     }
 
     private static void days() {
+        due.says("VALUE of a DAY (1, 5).");
         SpotRows x = Due.withEasyEyes(3);
         x.tell(0, 0, 0, 10);
         x.tell(1, 0, 0, 30);
@@ -39,6 +40,7 @@ public final class RowTest {
     }
 
     private static void months() {
+        due.says("VALUE of a MONTH (1, 5).");
         SpotRows x = Due.withEasyEyes(1);
         x.rules(1, 3);
         x.tell(0, 10, 0, 1);
@@ -68,6 +70,7 @@ public final class RowTest {
 
     /** Sums of the greatest VALUES are above what an int holds. */
     private static void greatestValues() {
+        due.says("VALUE of a MONTH (1, 5).");
         SpotRows x = Due.withEasyEyes(8);
         x.tell(0, 0, 0, 200);
         for (int eye = 1; eye < 8; eye++) {
@@ -118,6 +121,7 @@ public final class RowTest {
     }
 
     private static void smooths() {
+        due.says("SMOOTH (1, 5).");
         SpotRows x = ofMonths(1, 2, 4, -1, 16, 32, 64, 128, 0);
         due.met(x, "by 1", x.smooth(0, 1), 1000);
         due.met(x, "by 3, at the start", x.smooth(0, 3), 1500);
@@ -148,6 +152,7 @@ public final class RowTest {
     }
 
     private static void turns() {
+        due.says("The k-th HIGH (high true) or LOW by w and r, from 0 on: its MONTH");
         SpotRows x = ofMonths(5, 3, 4, 9, 2, 1, 6, 6, 0, 7);
         holdsTurns(x, 1, 1, true, 0, 3, 6, 9);
         holdsTurns(x, 1, 1, false, 1, 5, 8);
@@ -169,6 +174,8 @@ public final class RowTest {
     }
 
     private static void turnsOfLikeMonths() {
+        due.says("no MONTH of the r ahead of it has a SMOOTH as great or greater, and "
+            + "none of the r behind it a greater one");
         SpotRows x = ofMonths(4, 4, 4, 4);
         holdsTurns(x, 1, 1, true, 0);
         holdsTurns(x, 1, 1, false, 0);
@@ -181,6 +188,7 @@ public final class RowTest {
     }
 
     private static void turnsReach() {
+        due.says("HIGH by w and r (1 to 8) is a MONTH, if it is SMOOTH");
         SpotRows x = ofMonths(9, 1, 1, 1, 1, 1, 1, 1, 8, 9, 1, 1, 1, 1, 1, 1, 1, 1, 1, 1, 1, 1, 1, 2);
         holdsTurns(x, 1, 7, true, 0, 9, 23);
         holdsTurns(x, 1, 8, true, 0, 9, 23);
@@ -198,6 +206,7 @@ public final class RowTest {
     }
 
     private static void turnsOverGaps() {
+        due.says("(MONTHS without a SMOOTH are not looked at.)");
         SpotRows x = ofMonths(-1, 5, -1, 6, -1, -1, 4, -1);
         holdsTurns(x, 1, 1, true, 1, 3, 6);
         holdsTurns(x, 1, 1, false, 1, 3, 6);
@@ -208,6 +217,7 @@ public final class RowTest {
     }
 
     private static void smoothTurns() {
+        due.says("HIGH by w and r (1 to 8) is a MONTH, if it is SMOOTH");
         SpotRows x = ofMonths(0, 9, 0, 0, 30, 0, 27, 0, 0);
         holdsTurns(x, 1, 1, true, 1, 4, 6);
         holdsTurns(x, 3, 1, true, 0, 3, 5);
@@ -216,6 +226,8 @@ public final class RowTest {
 
     /** EYE 1 weighs 999: MONTHS are 999 and 1000. */
     private static void turnsByOneThousandth() {
+        due.says("no MONTH of the r ahead of it has a SMOOTH as great or greater, and "
+            + "none of the r behind it a greater one");
         SpotRows x = Due.withEasyEyes(2);
         for (int day = 0; day < 5; day++) {
             x.tell(0, day, 0, day == 0 ? 199 : 200);
@@ -237,6 +249,7 @@ public final class RowTest {
     }
 
     private static void changes() {
+        due.says("CHANGE of a MONTH by an EYE (1: EYE 0, too; 5: either VALUE).");
         SpotRows x = Due.withEasyEyes(3);
         x.tell(0, 0, 0, 1);
         x.tell(1, 0, 0, 3);
@@ -261,6 +274,7 @@ public final class RowTest {
 
     /** Without an EYE another CHAIN may be the one, or none. */
     private static void changesOfChains() {
+        due.says("WITHOUT an EYE (not 0): all that, as if it TOLD nothing.");
         SpotRows x = Due.withEasyEyes(5);
         x.tell(1, 0, 0, 1);
         x.tell(0, 0, 0, 2);

@@ -1,4 +1,4 @@
-/** Promises 1 to 4: a new object, STATUS and the FRACTION; and that a refused call changes nothing. */
+/** Promises 1 to 4: a new object, STATUS and the FRACTION. */
 public final class StateTest {
     private static final Due due = new Due();
 
@@ -7,12 +7,13 @@ public final class StateTest {
         rulesAtFirst();
         statusIsOfTheLatestCall();
         fractionStaysUntilTheNext();
-        refusedCallsChangeNothing();
+        bottomIsAboveNought();
         objectsAreApart();
         due.end("StateTest");
     }
 
     private static void newObject() {
+        due.says("No EYES; TRAYS are MISSING; the FRACTION 0 by 1; STATUS 0.");
         SpotRows x = new SpotRows();
         due.is("status", x.status(), 0);
         due.is("top", x.top(), 0);
@@ -34,6 +35,7 @@ public final class StateTest {
 
     /** LEAST is 10 and ENOUGH is 3, until rules() says another. */
     private static void rulesAtFirst() {
+        due.says("there is one, if BOTH are LEAST (10 at first) or more");
         SpotRows x = new SpotRows();
         x.eye();
         x.eye();
@@ -52,6 +54,7 @@ public final class StateTest {
     }
 
     private static void statusIsOfTheLatestCall() {
+        due.says("STATUS of the latest call that has one.");
         SpotRows x = new SpotRows();
         x.read(0, 0);
         x.top();
@@ -67,6 +70,7 @@ public final class StateTest {
     }
 
     private static void fractionStaysUntilTheNext() {
+        due.says("The top of the FRACTION told latest.");
         SpotRows x = new SpotRows();
         x.eye();
         x.eye();
@@ -86,52 +90,22 @@ public final class StateTest {
         due.tells(x, "active of busy days", x.active(0, 1, 2), 1, 1);
     }
 
-    private static void refusedCallsChangeNothing() {
-        SpotRows x = new SpotRows();
-        x.eye();
-        x.eye();
-        x.rules(1, 1);
-        x.tell(0, 5, 2, 30);
-        x.tell(1, 5, 1, 15);
-        x.tray(0, 0, 3);
-        x.write(0, 2, 7);
-        long before = shape(x);
-        x.tray(0, 4, 3);
-        x.tray(0, -1, 3);
-        x.tray(0, 0, 61);
-        x.tray(0, 0, -1);
-        x.write(0, 3, 9);
-        x.write(0, -1, 9);
-        x.pour(0, 2, 0, 0, 2);
-        x.pour(0, 2, 0, -1, 1);
-        x.tell(0, 5, 3, 2);
-        x.tell(0, 5, 21, 30);
-        x.tell(2, 5, 3, 3);
-        x.unsay(0, 6);
-        x.unsay(0, 240);
-        x.book(0, 5, 0, 4);
-        x.rules(0, 5);
-        x.rules(5, 0);
-        x.rules(5, 11);
-        x.rules(101, 5);
-        due.is("what stands", shape(x), before);
-        for (int eye = 2; eye < 8; eye++) {
-            x.eye();
-        }
-        due.lacks(x, "a ninth eye", x.eye(), 4);
-        due.lacks(x, "days of a ninth eye", x.days(8), 1);
-    }
-
-    private static long shape(SpotRows x) {
-        long shape = 0;
-        for (int place = 0; place < 4; place++) {
-            shape = shape * 31 + x.read(0, place);
-        }
-        for (int eye = 0; eye < 3; eye++) {
-            shape = shape * 31 + x.days(eye);
-            shape = shape * 31 + x.told(eye, 5, 2);
-        }
-        return (shape * 31 + x.factor(0, 1)) * 31 + x.month(0);
+    private static void bottomIsAboveNought() {
+        due.says("Its bottom, above 0.");
+        SpotRows x = Due.withEyes(2);
+        due.is("bottom at first", x.bottom(), 1);
+        due.lacks(x, "active of nothing", x.active(0, 0, 239), 5);
+        due.is("bottom after a refusal", x.bottom(), 1);
+        x.tell(0, 0, 0, 0);
+        x.tell(1, 0, 0, 7);
+        due.tells(x, "active of nought", x.active(0, 0, 239), 0, 1);
+        due.tells(x, "middle of nought", x.middle(1, 0), 0, 1);
+        due.tells(x, "step of nought", x.step(1, 0, 0), 0, 1);
+        due.lacks(x, "middle by nought", x.middle(0, 1), 6);
+        due.is("bottom after a refusal", x.bottom(), 1);
+        x.tell(0, 0, 0, 1);
+        due.tells(x, "middle by 1", x.middle(0, 1), 7, 1);
+        due.tells(x, "1 by 7", x.middle(1, 0), 1, 7);
     }
 
     private static void objectsAreApart() {

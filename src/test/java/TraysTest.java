@@ -14,6 +14,7 @@ public final class TraysTest {
     }
 
     private static void trays() {
+        due.says("A TRAY is a row of so many 0s (1).");
         SpotRows x = new SpotRows();
         due.met(x, "tray of 60", x.tray(3, 3, 60));
         due.met(x, "read of the last place", x.read(3, 59), 0);
@@ -34,6 +35,7 @@ public final class TraysTest {
     }
 
     private static void traysAreApart() {
+        due.says("A TRAY is a row of so many 0s (1).");
         SpotRows x = new SpotRows();
         for (int tray = 0; tray < 4; tray++) {
             x.tray(tray, 3, 60);
@@ -55,6 +57,7 @@ public final class TraysTest {
     }
 
     private static void writesAreCut() {
+        due.says("A number comes to a place of a TRAY, cut to its sort (1, 2, 3).");
         SpotRows x = new SpotRows();
         for (int sort = 0; sort < 4; sort++) {
             x.tray(sort, sort, 1);
@@ -73,6 +76,7 @@ public final class TraysTest {
     }
 
     private static void places() {
+        due.says("The number in a place of a TRAY; STATUS tells NONE from -1 (1, 2, 3).");
         SpotRows x = new SpotRows();
         due.lacks(x, "write into tray -1", x.write(-1, 0, 1), 1);
         due.lacks(x, "write into tray 4", x.write(4, 0, 1), 1);
@@ -97,6 +101,7 @@ public final class TraysTest {
     }
 
     private static void pours() {
+        due.says("So many numbers of a TRAY, from a place on");
         SpotRows x = new SpotRows();
         fill(x, 0, 5);
         x.tray(1, 3, 4);
@@ -119,6 +124,7 @@ public final class TraysTest {
     }
 
     private static void poursOverItself() {
+        due.says("come to another one's (or its own) place on, as they were");
         SpotRows x = new SpotRows();
         fill(x, 0, 5);
         due.met(x, "pour down", x.pour(0, 0, 0, 1, 4));
@@ -131,6 +137,7 @@ public final class TraysTest {
     }
 
     private static void pourAsksInOrder() {
+        due.says("1: below 0, too; 2; 7; 3; asked in this order");
         SpotRows x = new SpotRows();
         x.tray(1, 0, 2);
         x.tray(2, 1, 2);
