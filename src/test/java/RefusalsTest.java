@@ -328,6 +328,8 @@ public final class RefusalsTest {
         due.says("7 TRAYS are of unlike sorts.");
         calls.no(Scene.FULL, 7, "pour(0, 0, 1, 0, 1)", x -> x.pour(0, 0, 1, 0, 1));
         calls.no(Scene.FULL, 7, "pour(1, 0, 0, 0, 1)", x -> x.pour(1, 0, 0, 0, 1));
+        calls.no(Scene.FULL, 7, "pour(0, 0, 1, 0, 4)", x -> x.pour(0, 0, 1, 0, 4));
+        calls.no(Scene.FULL, 7, "pour(1, 0, 3, 0, 4)", x -> x.pour(1, 0, 3, 0, 4));
         calls.no(Scene.FULL, 7, "pour(1, 0, 3, 0, 0)", x -> x.pour(1, 0, 3, 0, 0));
         calls.no(Scene.SMALL, 7, "pour(1, 0, 0, 0, 0)", x -> x.pour(1, 0, 0, 0, 0));
         for (int a = 0; a < 4; a++) {
@@ -335,12 +337,14 @@ public final class RefusalsTest {
                 SpotRows x = new SpotRows();
                 x.tray(0, a, 2);
                 x.tray(3, b, 2);
+                x.write(0, 1, 8);
                 String text = "pour of sort " + a + " to sort " + b;
                 if (a == b) {
                     due.met(x, text, x.pour(0, 0, 3, 0, 2));
                 } else {
                     due.lacks(x, text, x.pour(0, 0, 3, 0, 2), 7);
                 }
+                due.met(x, "read behind a " + text, x.read(3, 1), a == b ? 8 : 0);
             }
         }
     }
